@@ -1712,14 +1712,19 @@ public final class ShippedClass {
             return at >= from && at < end && frames.isBegin(at);
         }
 
+        private int handlerAt(int i) {
+            return end + 2 + 8 * i;
+        }
+
         /** The PLACE that a number of a HANDLER, the first being 0, tells. */
         private int toldBy(int handler, int number) {
             return from + image.twoAt(handler + 2 * number);
         }
 
         private boolean areHandlersRight() {
-            int last = end + 8 * image.twoAt(end);
-            for (int handler = end + 2; handler < last; handler += 8) {
+            int many = image.twoAt(end);
+            for (int i = 0; i < many; i++) {
+                int handler = handlerAt(i);
                 int start = toldBy(handler, 0);
                 int stop = toldBy(handler, 1);
                 int type = image.twoAt(handler + 6);
@@ -1758,8 +1763,9 @@ public final class ShippedClass {
 
         private int goOnToHandlers(int at) {
             int fault = 0;
-            int last = end + 8 * image.twoAt(end);
-            for (int handler = end + 2; handler < last && fault == 0; handler += 8) {
+            int many = image.twoAt(end);
+            for (int i = 0; i < many && fault == 0; i++) {
+                int handler = handlerAt(i);
                 if (at >= toldBy(handler, 0) && at < toldBy(handler, 1)) {
                     fault = machine.mostStack == 0 ? STACK : frames.goOn(toldBy(handler, 2), caught, 1);
                 }

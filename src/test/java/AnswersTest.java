@@ -143,6 +143,11 @@ public final class AnswersTest {
             for (int at : new int[] {-1, due[method].length, 600, LOWEST, HIGHEST}) {
                 CHECKS.due("depth of " + method + " at " + at, x.depth(method, at), none);
             }
+            // What lies there may be instructions of another METHOD.
+            for (int i = 0; i < 90; i++) {
+                CHECKS.due("depth before " + method, x.depth(method, -1 - i), none);
+                CHECKS.due("depth behind " + method, x.depth(method, due[method].length + i), none);
+            }
         }
         for (int method : new int[] {-1, 3, 75, LOWEST, HIGHEST}) {
             CHECKS.due("depth of " + method, x.depth(method, 0), none);

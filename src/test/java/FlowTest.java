@@ -157,6 +157,9 @@ public final class FlowTest {
         // The same, but both I.
         ShippedClass y = right("two ways alike", "(I)V", 1, 3, 26, 153, 0, 8, 3, 60, 167, 0, 5, 3, 60, 177);
         dueLocals("where they meet alike", y, 11, "IIU");
+        // 0 iload_0, 1 ifeq 7, 4 aconst, 5 astore_0, 6 return, 7 iload_0, 8 pop, 9 return
+        ShippedClass z = right("each way has its own", "(I)V", 1, 1, 26, 153, 0, 6, 1, 75, 177, 26, 87, 177);
+        dueLocals("what the other way has set", z, 7, "I");
         due("what has become U", "(I)V", 1, 3, ShippedClass.KIND, 11, 26, 153, 0, 8, 3, 60, 167, 0, 5, 1, 76, 27, 87, 177);
     }
 
@@ -186,6 +189,9 @@ public final class FlowTest {
         dueLocals("J on H J", right("J between", "(JJ)V", 2, 4, 9, 64, 177), 2, "UJHU");
         dueLocals("J on J J", right("J on the second", "(JJ)V", 2, 4, 9, 65, 177), 2, "JHJH");
         dueLocals("I on U", right("I on U", "(J)V", 2, 3, 3, 61, 177), 2, "JHI");
+        ShippedClass x = right("I on the last J", "()V", 2, 64, 9, 55, 62, 3, 54, 62, 177);
+        CHECKS.due("the last J is there", x.kind(0, 3, true, 63), 3);
+        CHECKS.due("the last H is gone", x.kind(0, 6, true, 63), 0);
         due("the half is of no use", "(J)V", 2, 2, ShippedClass.KIND, 2, 3, 60, 30, 177);
     }
 
@@ -263,6 +269,20 @@ public final class FlowTest {
         ShippedClass y = Checks.fed(behind.make());
         CHECKS.dueFault("the LOCALS behind", y, 0, ShippedClass.NONE);
         dueLocals("the LOCALS behind", y, 3, "I");
+        // 0 aconst, 1 astore_0, 2 return, 3 pop, 4 return: 2 is no more between start and end.
+        ClassMaker end = new ClassMaker();
+        end.code("(I)V", 1, 1, 1, 75, 177, 87, 177).code.handler(0, 2, 3, 0);
+        ShippedClass e = Checks.fed(end.make());
+        CHECKS.dueFault("end is no more of it", e, 0, ShippedClass.NONE);
+        dueLocals("end is no more of it", e, 3, "I");
+        // Three of them, of which the second and third have the same INSTRUCTION.
+        ClassMaker three = new ClassMaker();
+        three.code("(I)V", 1, 1, 0, 177, 191, 191, 191).code.handler(2, 3, 2, 0).handler(0, 1, 3, 0).handler(0, 1, 4, 2);
+        ShippedClass t = Checks.fed(three.make());
+        CHECKS.dueFault("three", t, 0, ShippedClass.NONE);
+        CHECKS.due("the first is not reached", t.depth(0, 2), ShippedClass.NONE);
+        CHECKS.due("the second is", t.depth(0, 3), 1);
+        CHECKS.due("the third is", t.depth(0, 4), 1);
         // A HANDLER that is within its own reach: its own FRAME changes while it is gone through.
         ClassMaker own = new ClassMaker();
         ClassMaker.Member m = own.code("(I)V", 1, 1, 1, 75, 177);

@@ -201,8 +201,26 @@ public final class InstructionsTest {
                 }
             }
         }
+        loadsOfAll("(IIII)V", "IIII");
+        loadsOfAll("(JJJ)V", "JHJHJH");
+        loadsOfAll("(IJJ)V", "IJHJH");
+        loadsOfAll("([I[I[I[I)V", "AAAA");
         dueLocal(21, 255, 9, ShippedClass.LOCAL);
         dueLocal(22, 255, 64, ShippedClass.LOCAL);
+    }
+
+    private static void loadsOfAll(String type, String locals) {
+        int[] narrow = {26, 30, 42};
+        for (int k = 0; k < 3; k++) {
+            for (int i = 0; i < 4; i++) {
+                ClassMaker maker = new ClassMaker();
+                ClassMaker.Member m = maker.code(type, 2, 8, narrow[k] + i, 167, 0, 0);
+                boolean isRight = locals.charAt(i) == "IJA".charAt(k);
+                byte[] bytes = maker.make();
+                CHECKS.dueFault("opcode " + (narrow[k] + i) + " of " + type, bytes, isRight ? 0 : ShippedClass.KIND,
+                        isRight ? ShippedClass.NONE : m.codeAt);
+            }
+        }
     }
 
     private static void stores() {

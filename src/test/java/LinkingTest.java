@@ -4,7 +4,7 @@ public final class LinkingTest {
     private static final String[] TYPES = {"B", "C", "D", "F", "I", "J", "S", "Z", "LA;", "La/b/c;", "[I", "[[[[D",
         "[La/b;", "L(;", "LI;", "L\u007f;", "[LL;"};
     private static final String[] NO_TYPES = {"", "V", "A", "II", "L", "L;", "LA", "L/A;", "LA/;", "La//b;", "La.b;",
-        "L[A;", "LA;;", "LA;I", "[", "[V", "[[", "I[", "L<a>;", "L ;", "i", ";", "()", "(", ")V", "(V)V", "()", "()VV",
+        "L[A;", "LA;;", "LA;I", "[", "[V", "[[", "I[", "L<a>;", "L ;", "LA.", "LA[", "LA<", "LA ", "i", ";", "()", "(", ")V", "(V)V", "()", "()VV",
         "()II", "(I", "I)V", "(L;)V", "(LA)V", "()[V", "(()V)V", "()V ", " ()V", "((I)V", "()L;", "([)V", "(I)[",
         "(I))"};
     private static final String[] METHOD_TYPES = {"()V", "()I", "(I)V", "(IJLA;[[I)[LA;", "(FD)D", "(L);)V", "(LV;)LV;",
@@ -176,6 +176,9 @@ public final class LinkingTest {
             one.implementing(one.self).implementing(to).implementing(0);
             one.field(0, "", "");
             CHECKS.dueFault("INTERFACE of " + to, one.make(), ShippedClass.REFERENCE, one.interfacesAt + 2);
+            ClassMaker first = new ClassMaker();
+            first.implementing(to).implementing(first.self);
+            CHECKS.dueFault("the first INTERFACE of " + to, first.make(), ShippedClass.REFERENCE, first.interfacesAt);
         }
     }
 

@@ -127,6 +127,8 @@ public final class PolicyTest {
         maker.method(0x400, "finalize", "(I)V");
         maker.method(0x400, "finalize", "()I");
         maker.method(0x400, "finalizer", "()V");
+        maker.method(0x400, "Finalize", "()V");
+        maker.method(0x400, "finaliz", "()V");
         maker.field(0, "finalize", "I");
         maker.ownMethod("finalize", "()V");
         CHECKS.dueNone("others", maker.make());

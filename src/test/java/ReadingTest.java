@@ -206,6 +206,12 @@ public final class ReadingTest {
         m.code.attributes.add(ClassMaker.attribute(2));
         m.code.left = new byte[3];
         CHECKS.dueFault("a name in the CODE", maker.make(), ShippedClass.REFERENCE, m.codeAt + 1 + 4 + 7);
+        ClassMaker bare = new ClassMaker();
+        ClassMaker.Member b = bare.code("()V", 0, 0, 177);
+        b.code.attributes.add(ClassMaker.bytes(0, 2));
+        CHECKS.dueFault("a name and nothing more", bare.make(), ShippedClass.REFERENCE, b.codeAt + 1 + 4);
+        b.code.attributes.set(0, ClassMaker.bytes(0, 1));
+        CHECKS.dueFault("a right name and nothing more", bare.make(), ShippedClass.ATTRIBUTE, b.attributeAt);
         ClassMaker right = new ClassMaker();
         int code = right.text("Code");
         ClassMaker.Member n = right.code("()V", 0, 0, 177);
@@ -223,6 +229,12 @@ public final class ReadingTest {
         maker.attributes.add(ClassMaker.attribute(code, 1, 2));
         maker.attributes.add(ClassMaker.attribute(code));
         CHECKS.dueNone("attributes of others named Code", maker.make());
+        ClassMaker like = new ClassMaker();
+        ClassMaker.Member m = like.code("()V", 0, 0, 177);
+        for (String name : new String[] {"code", "Mode", "Codex", "Cod", ""}) {
+            m.attributes.add(ClassMaker.attribute(like.text(name), 1));
+        }
+        CHECKS.dueNone("names like Code", like.make());
     }
 
     private static void more() {
