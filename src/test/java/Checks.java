@@ -4,12 +4,31 @@ import java.util.function.IntSupplier;
 final class Checks {
     private int asked;
     private int wrong;
+    private int askedBefore;
+    private String sentence = "";
+
+    /** What the document says, word for word, and what the checks that follow are about. */
+    void sentence(String words) {
+        endSentence();
+        sentence = "\"" + words + "\": ";
+        askedBefore = asked;
+    }
+
+    private void endSentence() {
+        if (!sentence.isEmpty() && asked == askedBefore) {
+            tell("nothing is asked");
+        }
+    }
+
+    private void tell(String what) {
+        wrong++;
+        System.out.println(sentence + what);
+    }
 
     void due(String what, long got, long want) {
         asked++;
         if (got != want) {
-            wrong++;
-            System.out.println(what + " answered " + got + ", due is " + want);
+            tell(what + " answered " + got + ", due is " + want);
         }
     }
 
@@ -24,8 +43,7 @@ final class Checks {
             }
             got = "threw " + e;
         }
-        wrong++;
-        System.out.println(what + " " + got + ", due is " + want.getSimpleName());
+        tell(what + " " + got + ", due is " + want.getSimpleName());
     }
 
     /** The audit of these bytes on a new object finds this at that place. */
@@ -36,6 +54,15 @@ final class Checks {
     void dueFault(String what, ShippedClass x, int fault, int place) {
         due(what + ": audit", x.audit(), fault);
         due(what + ": place", x.place(), place);
+    }
+
+    /** The same where there may be no fault, and the place counts only if there is one. */
+    void dueFaultIf(boolean isWrong, String what, byte[] bytes, int fault, int place) {
+        dueFault(what, bytes, isWrong ? fault : 0, isWrong ? place : ShippedClass.NONE);
+    }
+
+    void dueFaultIf(boolean isWrong, String what, ShippedClass x, int fault, int place) {
+        dueFault(what, x, isWrong ? fault : 0, isWrong ? place : ShippedClass.NONE);
     }
 
     void dueNone(String what, byte[] bytes) {
@@ -62,6 +89,7 @@ final class Checks {
     }
 
     void end() {
+        endSentence();
         System.out.println(asked + " asked, " + wrong + " wrong");
         if (wrong != 0 || asked == 0) {
             System.exit(1);
