@@ -17,6 +17,7 @@ public final class LinkingBoundsTest {
         ofAClassAndAPair();
         ofTwoTexts();
         byNumber();
+        fromNumberOne();
         namesOfAClass();
         lettersOfAName();
         firstOfAPair();
@@ -134,6 +135,45 @@ public final class LinkingBoundsTest {
             }
             dueAt(true, "the first of many, of sort " + first, maker, fault, wrong);
         }
+    }
+
+    /** Here the CONSTANT that tells others is number 1, and those are behind it. */
+    private static byte[] withFirst(int... first) {
+        // 2 A, 3 CLASS A, 4 f, 5 I, 6 PAIR f I, 7 ()V, 8 PAIR f ()V, 9 a.b, 10 CLASS f; THIS and SUPER are A.
+        int[] rest = {1, 0, 1, 'A', 7, 0, 2, 1, 0, 1, 'f', 1, 0, 1, 'I', 12, 0, 4, 0, 5, 1, 0, 3, '(', ')', 'V',
+            12, 0, 4, 0, 7, 1, 0, 3, 'a', '.', 'b', 7, 0, 4, 0, 0, 0, 3, 0, 3, 0, 0, 0, 0, 0, 0, 0, 0};
+        int[] head = {0xCA, 0xFE, 0xBA, 0xBE, 0, 0, 0, 61, 0, 11};
+        int[] all = new int[head.length + first.length + rest.length];
+        System.arraycopy(head, 0, all, 0, head.length);
+        System.arraycopy(first, 0, all, head.length, first.length);
+        System.arraycopy(rest, 0, all, head.length + first.length, rest.length);
+        return ClassMaker.bytes(all);
+    }
+
+    private static void dueFirst(String what, int fault, int... first) {
+        CHECKS.dueFaultIf(fault != 0, what, withFirst(first), fault, 10);
+    }
+
+    private static void fromNumberOne() {
+        CHECKS.sentence("CONSTANTS by number (from 1 on); Then FIELDS and METHODS by number (the first of all)");
+        dueFirst("a CLASS", 0, 7, 0, 2);
+        dueFirst("a CLASS of none", REFERENCE, 7, 0, 0);
+        dueFirst("a CLASS of itself", REFERENCE, 7, 0, 1);
+        dueFirst("a CLASS of no NAME", NAME, 7, 0, 9);
+        dueFirst("a STRING", 0, 8, 0, 9);
+        dueFirst("a STRING of itself", REFERENCE, 8, 0, 1);
+        dueFirst("a PAIR", 0, 12, 0, 4, 0, 5);
+        dueFirst("a PAIR of itself", REFERENCE, 12, 0, 1, 0, 5);
+        dueFirst("a PAIR of no NAME", NAME, 12, 0, 9, 0, 5);
+        dueFirst("a PAIR of no TYPE", DESCRIPTOR, 12, 0, 4, 0, 9);
+        dueFirst("a FIELD", 0, 9, 0, 3, 0, 6);
+        dueFirst("a FIELD of itself", REFERENCE, 9, 0, 1, 0, 6);
+        dueFirst("a FIELD of a METHOD TYPE", DESCRIPTOR, 9, 0, 3, 0, 8);
+        dueFirst("a METHOD", 0, 10, 0, 3, 0, 8);
+        dueFirst("a METHOD of no PAIR", REFERENCE, 10, 0, 3, 0, 1);
+        dueFirst("a METHOD of a TYPE", DESCRIPTOR, 10, 0, 3, 0, 6);
+        dueFirst("a FIELD of another", ShippedClass.FORBIDDEN, 9, 0, 10, 0, 6);
+        dueFirst("a METHOD of another", ShippedClass.FORBIDDEN, 10, 0, 10, 0, 8);
     }
 
     private static int wrongConstant(ClassMaker maker, int sort) {

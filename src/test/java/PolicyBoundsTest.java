@@ -286,6 +286,14 @@ public final class PolicyBoundsTest {
         ShippedClass x = Checks.fed(maker.make());
         x.limit(1, 0);
         CHECKS.dueFault("none is not more than none", x, 0, ShippedClass.NONE);
+        // Whatever numbers lie elsewhere in the file are not its STACK or LOCALS.
+        ClassMaker large = new ClassMaker();
+        large.version = 65;
+        for (int k = 5; k < 100; k++) {
+            large.text("");
+        }
+        large.method(ClassMaker.ABSTRACT, "m", "()V");
+        CHECKS.dueNone("in a file of large numbers", large.make());
     }
 
     private static void fromNowOn() {

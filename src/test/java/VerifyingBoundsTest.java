@@ -20,6 +20,7 @@ public final class VerifyingBoundsTest {
         handlerTypes();
         firstWrongHandler();
         thisBut();
+        allOthers();
         moreThanLocals();
         nothingIsThere();
         anotherIsThere();
@@ -170,6 +171,25 @@ public final class VerifyingBoundsTest {
                 CHECKS.due("LOCAL 1 with " + flags, x.kind(0, 0, true, 1), flags == 8 ? 0 : 1);
                 CHECKS.due("LOCAL 2 with " + flags, x.kind(0, 0, true, 2), ShippedClass.NONE);
                 CHECKS.due("no stack", x.depth(0, 0), 0);
+            }
+        }
+    }
+
+    private static void allOthers() {
+        CHECKS.sentence("all others U, no stack");
+        String[] types = {"(I[IJI)V", "()V", "(J)V", "(FD)V", "([I)V"};
+        String[] kinds = {"IAJHIUUU", "UUUUUUUU", "JHUUUUUU", "UUUUUUUU", "AUUUUUUU"};
+        ClassMaker maker = new ClassMaker();
+        for (String type : types) {
+            // 0 iconst, 1 istore 7, 3 aconst, 4 athrow: what lies there at the end is not there for the next METHOD.
+            maker.code(type, 1, 8, 3, 54, 7, 1, 191);
+        }
+        ShippedClass x = Checks.fed(maker.make());
+        CHECKS.dueFault("five METHODS", x, 0, ShippedClass.NONE);
+        for (int k = 0; k < types.length; k++) {
+            CHECKS.due("the stack of " + types[k], x.depth(k, 0), 0);
+            for (int i = 0; i < 8; i++) {
+                CHECKS.due("LOCAL " + i + " of " + types[k], x.kind(k, 0, true, i), "UIJHA".indexOf(kinds[k].charAt(i)));
             }
         }
     }
