@@ -9,6 +9,7 @@ final class ClassMaker {
     static final int ABSTRACT = 0x400;
 
     int version = 61;
+    int flags = 0x21;
     int self;
     int parent;
     int thisAt;
@@ -238,7 +239,7 @@ final class ClassMaker {
             places.add(to.size());
             to.writeBytes(row);
         }
-        two(to, 0x21);
+        two(to, flags);
         thisAt = to.size();
         two(to, self);
         two(to, parent);

@@ -33,6 +33,7 @@ public final class LinkingBoundsTest {
         typesOfMembers();
         ordersWithinAMember();
         bothAsOneBefore();
+        textsEnd();
         codeAndFlags();
         fieldsThenMethods();
         CHECKS.end();
@@ -495,6 +496,48 @@ public final class LinkingBoundsTest {
         sorts.field(0, "m", "I");
         sorts.method(ABSTRACT, "m", "()V");
         CHECKS.dueNone("a FIELD and a METHOD of one name", sorts.make());
+    }
+
+    /** The last TEXT of all; what is behind it are the flags, whose bytes may be letters. */
+    private static ClassMaker withFlags(String letters) {
+        ClassMaker maker = new ClassMaker();
+        maker.flags = letters.charAt(0) << 8 | letters.charAt(1);
+        return maker;
+    }
+
+    private static void textsEnd() {
+        CHECKS.sentence("1 TEXT: u2 length, that many bytes (what is behind them is no more of it)");
+        String[][] types = {{"", "IV"}, {"[", "II"}, {"LA", ";;"}, {"L", "A;"}, {"()", "VV"}, {"(", ")V"}, {"", "()"},
+            {"(I", ")I"}, {"(LA", ";)"}, {"()[", "II"}, {"()LA", ";V"}, {"()L", "A;"}};
+        for (String[] row : types) {
+            ClassMaker pair = withFlags(row[1]);
+            int wrong = pair.pairAt(1, 6);
+            pair.text(row[0]);
+            dueAt(true, "the type " + row[0] + " and " + row[1], pair, DESCRIPTOR, wrong);
+            ClassMaker field = withFlags(row[1]);
+            ClassMaker.Member f = field.field(0, "f", row[0]);
+            CHECKS.dueFault("of a FIELD " + row[0], field.make(), DESCRIPTOR, f.at);
+            ClassMaker method = withFlags(row[1]);
+            ClassMaker.Member m = method.method(ABSTRACT, "m", row[0]);
+            CHECKS.dueFault("of a METHOD " + row[0], method.make(), DESCRIPTOR, m.at);
+        }
+        for (String[] row : new String[][] {{"", "ab"}, {"a/", "bc"}, {"<init", ">x"}, {"", "<i"}}) {
+            ClassMaker named = withFlags(row[1]);
+            int wrong = named.classAt(6);
+            named.text(row[0]);
+            dueAt(true, "a CLASS " + row[0] + " and " + row[1], named, NAME, wrong);
+            ClassMaker pair = withFlags(row[1]);
+            int other = pair.pairAt(6, 1);
+            pair.text(row[0]);
+            dueAt(true, "a PAIR " + row[0] + " and " + row[1], pair, NAME, other);
+        }
+        for (String[] row : new String[][] {{"a", "./"}, {"a", "/b"}, {"ab", ";["}, {"<init>", "<>"}}) {
+            ClassMaker pair = withFlags(row[1]);
+            int right = pair.pairAt(6, 7);
+            pair.text(row[0]);
+            pair.text("()V");
+            dueAt(false, "a PAIR " + row[0] + " and " + row[1], pair, 0, right);
+        }
     }
 
     private static void codeAndFlags() {

@@ -10,6 +10,7 @@ public final class PolicyBoundsTest {
     public static void main(String[] args) {
         manyMethods();
         protectedTexts();
+        textsEnd();
         eachOfSix();
         ownText();
         allowedTexts();
@@ -94,6 +95,37 @@ public final class PolicyBoundsTest {
         addRule(x, false, "U");
         Checks.feed(x, maker.make());
         CHECKS.dueFault("SUPER, INTERFACES and others may", x, 0, ShippedClass.NONE);
+    }
+
+    private static void textsEnd() {
+        CHECKS.sentence("begins with a PROTECTED text ... begins with an ALLOWED text (what is behind a TEXT is no more of it)");
+        ClassMaker own = new ClassMaker();
+        own.self = own.classAt(6);
+        own.text("Ow");
+        own.flags = 'n' << 8 | 's';
+        ClassMaker used = new ClassMaker();
+        int owner = used.classAt(10);
+        int pair = used.pairOf("f", "I");
+        int field = used.fieldAt(owner, pair);
+        CHECKS.due("the last TEXT", used.text("Ow"), 10);
+        used.flags = own.flags;
+        for (String text : new String[] {"O", "Ow", "Own", "Owns"}) {
+            ShippedClass x = new ShippedClass();
+            addRule(x, false, text);
+            Checks.feed(x, own.make());
+            CHECKS.dueFaultIf(text.length() <= 2, "PROTECTED " + text, x, ShippedClass.PROTECTED, own.thisAt);
+            ShippedClass y = new ShippedClass();
+            addRule(y, true, text);
+            Checks.feed(y, used.make());
+            CHECKS.dueFaultIf(text.length() > 2, "ALLOWED " + text, y, FORBIDDEN, used.placeOf(field));
+        }
+        ClassMaker same = new ClassMaker();
+        same.flags = 'n' << 8 | 's';
+        int another = same.classAt(10);
+        int wrong = same.fieldAt(another, same.pairOf("f", "I"));
+        CHECKS.due("the last TEXT again", same.text("Ow"), 10);
+        byte[] bytes = same.make();
+        CHECKS.dueFault("Ow and n is not Own", bytes, FORBIDDEN, same.placeOf(wrong));
     }
 
     private static void eachOfSix() {

@@ -30,6 +30,7 @@ public final class ReadingBoundsTest {
         onlyOfAMethod();
         codeWithin();
         codeOfLargeNumbers();
+        codeThatWrapsAround();
         codeLeft();
         codeOfNoInstruction();
         namesInCode();
@@ -495,6 +496,16 @@ public final class ReadingBoundsTest {
                 }
             }
         }
+    }
+
+    /** Each would be all there, and right or wrong in another way, if its large number were taken with a sign. */
+    private static void codeThatWrapsAround() {
+        CHECKS.sentence("if something of it is not within its bytes (a length without a sign)");
+        dueCode("the instructions end at STACK", ATTRIBUTE, 0, 0, 0, 1, 255, 255, 255, 248, 0, 0, 0, 0);
+        dueCode("the instructions end at their length", ATTRIBUTE, 0, 0, 0, 0, 255, 255, 255, 252, 0, 0, 0, 0);
+        dueCode("the instructions end before they begin", ATTRIBUTE, 0, 0, 0, 0, 255, 255, 255, 255, 0, 0, 0, 0);
+        dueCode("an ATTRIBUTE ends at its name", ATTRIBUTE, 0, 0, 0, 0, 0, 0, 0, 1, 177, 0, 0, 0, 2, 0, 1, 255, 255, 255, 250);
+        dueCode("an ATTRIBUTE ends at its length", ATTRIBUTE, 0, 0, 0, 0, 0, 0, 0, 1, 177, 0, 0, 0, 1, 0, 1, 255, 255, 255, 252);
     }
 
     private static void codeLeft() {

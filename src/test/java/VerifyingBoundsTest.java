@@ -348,6 +348,13 @@ public final class VerifyingBoundsTest {
         ClassMaker two = new ClassMaker();
         two.code("()V", 1, 0, 177, 191).code.handler(0, 1, 1, 0).handler(0, 1, 1, 2);
         CHECKS.dueNone("two to the same PLACE", two.make());
+        for (int first = 0; first < 2; first++) {
+            // 0 nop, 1 return, 2 athrow: to 0 the stack differs, to 2 it does not.
+            ClassMaker one = new ClassMaker();
+            ClassMaker.Member w = one.code("()V", 1, 0, 0, 177, 191);
+            w.code.handler(1, 2, first == 0 ? 0 : 2, 0).handler(1, 2, first == 0 ? 2 : 0, 0);
+            CHECKS.dueFault("one of two is wrong, number " + first, one.make(), FRAME, w.codeAt + 1);
+        }
         // The HANDLER at 4 is before the next INSTRUCTION, which has no stack: FRAME is at 3 in both orders.
         ClassMaker next = new ClassMaker();
         ClassMaker.Member n = next.code("()V", 1, 0, 167, 0, 3, 0, 177);
