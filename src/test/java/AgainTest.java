@@ -82,6 +82,10 @@ public final class AgainTest {
         all.add(code("(I)V", 2, 4, 177).make());
         all.add(code("(I)V", 2, 4, 17, 0, 0, 17, 0, 0, 88, 177).make());
         all.add(twoMethods().make());
+        for (int i = 0; i < 2; i++) {
+            all.add(threeMembers(i == 1, false).make());
+            all.add(threeMembers(i == 1, true).make());
+        }
         all.add(new byte[0]);
         all.add(new byte[600]);
         all.add(Arrays.copyOf(manyMembers().make(), 200));
@@ -116,6 +120,23 @@ public final class AgainTest {
         for (int i = 0; i < 5; i++) {
             maker.field(0, "f" + i, "J");
             maker.method(8, "m" + i, "()V", 3, 4, 3, 9, 88, 87, 177);
+        }
+        return maker;
+    }
+
+    /** Or two of them, and numbers of TEXTS where the third one was. */
+    private static ClassMaker threeMembers(boolean isMethod, boolean isOneLess) {
+        ClassMaker maker = new ClassMaker();
+        for (int i = 0; i < 3; i++) {
+            if (isMethod) {
+                maker.method(ClassMaker.ABSTRACT, "m" + i, "()V");
+            } else {
+                maker.field(0, "f" + i, "I");
+            }
+        }
+        if (isOneLess) {
+            (isMethod ? maker.methods : maker.fields).remove(2);
+            maker.attributes.add(ClassMaker.attribute(1, 1, 2, 3));
         }
         return maker;
     }

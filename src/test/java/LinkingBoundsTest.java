@@ -531,6 +531,22 @@ public final class LinkingBoundsTest {
             pair.text(row[0]);
             dueAt(true, "a PAIR " + row[0] + " and " + row[1], pair, NAME, other);
         }
+        for (String[] row : new String[][] {{"a", "bc"}, {"a", "/b"}, {"a/b", "/c"}, {"a/b", ".x"}, {"a", "//"}}) {
+            ClassMaker named = withFlags(row[1]);
+            int right = named.classAt(6);
+            named.text(row[0]);
+            dueAt(false, "a CLASS " + row[0] + " and " + row[1], named, 0, right);
+        }
+        for (String[] row : new String[][] {{"I", "II"}, {"I", ";;"}, {"LA;", ";I"}, {"[I", "[I"}, {"[[LA;", ";;"}}) {
+            ClassMaker field = withFlags(row[1]);
+            field.field(0, "f", row[0]);
+            CHECKS.dueNone("of a FIELD " + row[0] + " and " + row[1], field.make());
+        }
+        for (String[] row : new String[][] {{"()V", "VV"}, {"()I", "IV"}, {"(I)LA;", ";;"}, {"()[I", "[I"}}) {
+            ClassMaker method = withFlags(row[1]);
+            method.method(ABSTRACT, "m", row[0]);
+            CHECKS.dueNone("of a METHOD " + row[0] + " and " + row[1], method.make());
+        }
         for (String[] row : new String[][] {{"a", "./"}, {"a", "/b"}, {"ab", ";["}, {"<init>", "<>"}}) {
             ClassMaker pair = withFlags(row[1]);
             int right = pair.pairAt(6, 7);
