@@ -46,6 +46,25 @@ final class Checks {
         tell(what + " " + got + ", due is " + want.getSimpleName());
     }
 
+    private static String outcome(IntSupplier call) {
+        try {
+            return "answered " + call.getAsInt();
+        } catch (RuntimeException e) {
+            return "threw " + e;
+        }
+    }
+
+    /** Both answer the same, or throw the same; whether it was so. */
+    boolean dueSame(String what, IntSupplier call, IntSupplier want) {
+        asked++;
+        String got = outcome(call);
+        String due = outcome(want);
+        if (!got.equals(due)) {
+            tell(what + " " + got + ", but the plain one " + due);
+        }
+        return got.equals(due);
+    }
+
     /** The audit of these bytes on a new object finds this at that place. */
     void dueFault(String what, byte[] bytes, int fault, int place) {
         dueFault(what, fed(bytes), fault, place);
