@@ -153,6 +153,16 @@ final class PlainClass {
         return method >= 0 && method < good.codes.size() ? good.codes.get(method).frames.get(at) : null;
     }
 
+    /** The byte at which an INSTRUCTION with a FRAME is, the n-th one, counted round; 0 if there is none. */
+    int frameAt(int method, int n) {
+        boolean isThere = good != null && method < good.codes.size() && !good.codes.get(method).frames.isEmpty();
+        if (!isThere) {
+            return 0;
+        }
+        List<Integer> all = new ArrayList<>(good.codes.get(method).frames.keySet());
+        return all.get(n % all.size());
+    }
+
     int depth(int method, int at) {
         PlainCode.Frame frame = frame(method, at);
         return frame == null ? ShippedClass.NONE : frame.stack().length();

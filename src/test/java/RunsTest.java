@@ -209,10 +209,11 @@ public final class RunsTest {
             text(dice.upTo(8), dice.upTo(4), dice.upTo(6));
         }
         int method = dice.upTo(4);
-        for (int i = dice.upTo(8); i >= 0; i--) {
-            int at = dice.upTo(60);
+        for (int i = dice.upTo(12); i >= 0; i--) {
+            int at = dice.isOneOf(8) ? dice.upTo(60) : plain.frameAt(method, dice.upTo(60));
             depth(method, at);
-            kind(method, at, true, dice.upTo(9));
+            kind(method, at, true, dice.upTo(8));
+            kind(method, at, true, dice.upTo(4));
             kind(method, at, false, dice.upTo(5));
         }
     }
